@@ -5,6 +5,8 @@ import java.util.Collections;
 import java.util.List;
 import java.util.NoSuchElementException;
 import java.util.TreeSet;
+import java.util.regex.Matcher;
+import java.util.regex.Pattern;
 
 /**
  * The document once more, in its slowest and plainest form, with library numbers and by trying all that can be:
@@ -279,7 +281,8 @@ final class Naive {
         String t = tokens.get(cursor++);
         boolean word = t.matches("[a-z]+");
         boolean number = t.matches("[0-9]+");
-        if (!word && !number && !t.equals(";") || number && new BigInteger(t).compareTo(BigInteger.valueOf(1000000)) > 0) {
+        boolean tooGreat = number && new BigInteger(t).compareTo(BigInteger.valueOf(1000000)) > 0;
+        if (!word && !number && !t.equals(";") || tooGreat) {
             throw new Fault(1, at());
         }
         return t;
@@ -316,8 +319,7 @@ final class Naive {
     private void walk(State t) {
         tokens.clear();
         places.clear();
-        java.util.regex.Matcher m = java.util.regex.Pattern.compile("[a-z]+|[0-9]+|[^ \n]", java.util.regex.Pattern.DOTALL)
-                .matcher(text);
+        Matcher m = Pattern.compile("[a-z]+|[0-9]+|[^ \n]").matcher(text);
         while (m.find()) {
             tokens.add(m.group());
             places.add(m.start());
@@ -1221,7 +1223,8 @@ final class Naive {
             return -1;
         }
         if (what == 3) {
-            return (int) allMaps(d).stream().filter(m -> spread(m, d) == spread(told, d) && rim(m) == rim(told)).count();
+            return (int) allMaps(d).stream()
+                    .filter(m -> spread(m, d) == spread(told, d) && rim(m) == rim(told)).count();
         }
         return what == 1 ? spread(told, d) : rim(told);
     }
@@ -1237,7 +1240,8 @@ final class Naive {
     public int tilt(int d, int limit, boolean isMost) {
         args(in(d, 1, 3) && in(limit, 0, 9000));
         int[] won = allMaps(d).stream().filter(m -> spread(m, d) <= limit).mapToInt(m -> red(m, d)).toArray();
-        return won.length == 0 ? -1 : isMost ? Arrays.stream(won).max().getAsInt() : Arrays.stream(won).min().getAsInt();
+        Arrays.sort(won);
+        return won.length == 0 ? -1 : won[isMost ? won.length - 1 : 0];
     }
 
     // Panels

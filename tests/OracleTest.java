@@ -117,7 +117,8 @@ public final class OracleTest {
             }
             case 7 -> shareCall(random(2) == 0 ? "setBar" : "setPost");
             case 8, 9 -> {
-                call("deal", about(0, 2), about(0, lands - 1), about(0, 4), random(8) == 0 ? about(1, 400) : about(1, 12));
+                int house = random(8) == 0 ? about(1, 400) : about(1, 12);
+                call("deal", about(0, 2), about(0, lands - 1), about(0, 4), house);
                 call("seatAt", about(0, 3), about(0, parties - 1));
                 call("count", 7);
                 if (random(2) == 0) {

@@ -303,6 +303,15 @@ public final class PromisesTest {
         promise = 13;
         error(x, ";", 2, 0);
         error(x, "partys;", 2, 0);
+        error(x, "partyz;", 2, 0);
+        error(x, "party{;", 1, 5);
+        error(x, "part;", 2, 0);
+        error(x, "qarty;", 2, 0);
+        error(x, "a;", 2, 0);
+        error(x, "z;", 2, 0);
+        error(x, "land`;", 1, 4);
+        error(x, "votes 0 0 5/;", 1, 11);
+        error(x, "votes 0 0 5:;", 1, 11);
         error(x, "party", 2, 5);
         error(x, "party  \n", 2, 8);
         error(x, "party land;", 2, 6);
@@ -386,6 +395,10 @@ public final class PromisesTest {
         is("2 1 0|", results(small));
         small.deal(0, 0, 4, 4);
         is("2 1 1|", results(small));
+        Seattable one = votes(1, 1);
+        is(2, one.deal(0, 0, 3, 1));
+        is(2, one.deal(0, 0, 4, 1));
+        is(2, one.deal(0, 0, 0, 1));
         dealingEdges();
     }
 
@@ -468,8 +481,9 @@ public final class PromisesTest {
         is(3002, x.breaks(0, 0, 0, 3, 4));
         is(-1, x.breaks(0, 1, 0, 0, 60));
         is(-1, x.breaks(0, 0, 0, 3, 1));
+        is(3000, votes(2, 6, 6).breaks(0, 0, 0, 3, 4));
         // t = 0 is kind to small ones: two of them get more than one with the votes of both.
-        Seattable small = votes(10, 10, 60);
+        Seattable small = votes(1, 1, 6);
         small.setPost(0, 1);
         is(1, small.breaks(1, 0, 0, 0, 4));
         small.setPost(1, 1);
@@ -477,9 +491,13 @@ public final class PromisesTest {
         // 1, 1 and 1 of 3 by the greatest rests; without the first one 6 and 2 share 2 seats as 2 and 0.
         is(1, x.breaks(2, 0, 0, 3, 3));
         is(-1, votes(60, 30, 10).breaks(2, 0, 0, 0, 10));
+        // Without the first one, who has no seat, the others would share otherwise; but only one with seats counts.
+        is(-1, votes(3, 97, 11, 46).breaks(2, 0, 0, 3, 9));
         // 8, 5, 3 and 4 of 20 by rule 4; with 20 for 19 and 50 for 49 it is 9, 5, 3 and 3.
         Seattable gaining = votes(49, 27, 14, 19);
         is(3000, gaining.breaks(3, 0, 0, 4, 20));
+        is(3, votes(16, 22, 78, 90).breaks(3, 0, 0, 4, 16));
+        is(2001, votes(22, 85, 19, 87).breaks(3, 0, 0, 4, 5));
         is(-1, gaining.breaks(3, 0, 0, 3, 20));
         is(-1, gaining.breaks(3, 0, 0, 0, 20));
         Seattable people = house(0, 3);
@@ -525,6 +543,11 @@ public final class PromisesTest {
         full.setSum(false, 0, 39);
         is(2, full.fill());
         is(20, full.cellAt(0, 0, 0));
+        x.setVotes(0, 0, 0);
+        is(1, x.fill());
+        x.write(1);
+        is("0 1\n1 0\n-\n", read(x));
+        x.undo();
         promise = 20;
         is(1, full.cellAt(0, 1, 1) + full.cellAt(0, 1, 0));
         is(0, x.cellAt(1, 0, 0));
@@ -627,6 +650,15 @@ public final class PromisesTest {
         is(1, x.tiers(3, 3, 4, 1));
         is(5, x.tiers(3, 3, 4, 0));
         is(-1, house(0, 1).tiers(0, 0, 1, 0));
+        is(BOUNDS, thrown(() -> house(0, 1).tiers(0, 0, 1, 2)));
+        // A first quotient of 1 / (1/2) is 2; in houses up to 399 all the others of 798 are above it.
+        Seattable far = house(2, 2);
+        far.setVotes(0, 0, 1);
+        far.setVotes(1, 1, 798);
+        far.setSum(true, 0, 1);
+        is(400, far.tiers(0, 0, 1, 0));
+        far.setVotes(1, 1, 800);
+        is(-1, far.tiers(0, 0, 1, 0));
         is(ARGUMENT, thrown(() -> x.tiers(5, 0, 1, -1)));
         is(ARGUMENT, thrown(() -> x.tiers(0, -1, 1, 0)));
         is(ARGUMENT, thrown(() -> x.tiers(0, 0, 0, 9)));
