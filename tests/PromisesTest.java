@@ -1,127 +1,8 @@
-import java.util.NoSuchElementException;
-
 /** For each promise of the document: ordinary inputs, the edges that it names, and wrong inputs. */
-public final class PromisesTest {
-    private static int wrong;
-    private static int promise;
-
-    private interface Call {
-        Object run();
-    }
-
-    private static void is(Object want, Object got) {
-        if (!want.equals(got)) {
-            wrong++;
-            StackTraceElement at = new Throwable().getStackTrace()[1];
-            System.out.println("promise " + promise + ", line " + at.getLineNumber() + ": " + got + ", due is " + want);
-        }
-    }
-
-    private static String thrown(Call call) {
-        try {
-            return "answered " + call.run();
-        } catch (RuntimeException e) {
-            return e.getClass().getSimpleName();
-        }
-    }
-
-    private static final String BOUNDS = "IndexOutOfBoundsException";
-    private static final String ARGUMENT = "IllegalArgumentException";
-    private static final String STATE = "IllegalStateException";
-    private static final String ELEMENT = "NoSuchElementException";
-    private static final int FAR = Integer.MAX_VALUE;
-    private static final int LOW = Integer.MIN_VALUE;
-
-    private static Seattable house(int parties, int lands) {
-        Seattable x = new Seattable();
-        for (int i = 0; i < parties; i++) {
-            x.addParty();
-        }
-        for (int i = 0; i < lands; i++) {
-            x.addLand();
-        }
-        return x;
-    }
-
-    /** A house with one land, and these votes in it. */
-    private static Seattable votes(int... votes) {
-        Seattable x = house(votes.length, 1);
-        for (int i = 0; i < votes.length; i++) {
-            x.setVotes(i, 0, votes[i]);
-        }
-        return x;
-    }
-
-    private static Seattable table(int[][] votes, int[] parties, int[] lands) {
-        Seattable x = house(parties.length, lands.length);
-        for (int p = 0; p < parties.length; p++) {
-            x.setSum(false, p, parties[p]);
-            for (int l = 0; l < lands.length; l++) {
-                x.setVotes(p, l, votes[p][l]);
-            }
-        }
-        for (int l = 0; l < lands.length; l++) {
-            x.setSum(true, l, lands[l]);
-        }
-        return x;
-    }
-
-    private static int type(Seattable x, String text) {
-        int length = x.type(0, 0, 0, 0, 0, 0);
-        for (int i = 0; i < text.length(); i++) {
-            length = x.type(text.charAt(i), 0, 0, 0, 0, 0);
-        }
-        return length;
-    }
-
-    private static String board(Seattable x) {
-        x.write(2);
-        return read(x).trim();
-    }
-
-    private static String read(Seattable x) {
-        StringBuilder out = new StringBuilder();
-        for (int i = 0; !thrown(() -> x.signAt(out.length())).equals(ELEMENT); i++) {
-            out.append((char) x.signAt(i));
-        }
-        return out.toString();
-    }
-
-    private static String results(Seattable x) {
-        x.write(0);
-        return read(x).replace("\n", "|");
-    }
-
-    private static Seattable ballots(int candidates, int... manyAndRows) {
-        Seattable x = new Seattable();
-        x.setCandidates(candidates);
-        for (int i = 0; i < manyAndRows.length; i += 2) {
-            x.addBallot(manyAndRows[i], manyAndRows[i + 1]);
-        }
-        return x;
-    }
-
-    private static String votesIn(Seattable x, int round) {
-        StringBuilder out = new StringBuilder();
-        for (int c = 0; c < x.count(2); c++) {
-            x.votesAt(round, c);
-            out.append(board(x)).append(' ');
-        }
-        x.votesAt(round, -1);
-        return out.append(board(x)).toString();
-    }
-
-    private static Seattable players(int majority, int... weights) {
-        Seattable x = new Seattable();
-        for (int w : weights) {
-            x.addPlayer(w);
-        }
-        x.setMajority(majority);
-        return x;
-    }
+public final class PromisesTest extends Checks {
 
     private static void newObject() {
-        promise = 1;
+        says("promise 1");
         Seattable x = new Seattable();
         for (int what = 0; what <= 11; what++) {
             is(what == 2 ? 2 : 0, x.count(what));
@@ -137,7 +18,7 @@ public final class PromisesTest {
     }
 
     private static void partiesAndLands() {
-        promise = 2;
+        says("promise 2");
         Seattable x = new Seattable();
         for (int i = 0; i < 6; i++) {
             is(i, x.addParty());
@@ -145,7 +26,7 @@ public final class PromisesTest {
         is(STATE, thrown(x::addParty));
         is(6, x.count(0));
         is(6, x.count(10));
-        promise = 3;
+        says("promise 3");
         for (int i = 0; i < 5; i++) {
             is(i, x.addLand());
         }
@@ -157,7 +38,7 @@ public final class PromisesTest {
     }
 
     private static void votesAndPeople() {
-        promise = 4;
+        says("promise 4");
         Seattable x = house(2, 2);
         is(0, x.setVotes(1, 1, 1000000));
         is(1000000, x.setVotes(1, 1, 0));
@@ -171,7 +52,7 @@ public final class PromisesTest {
         is(ARGUMENT, thrown(() -> x.setVotes(1, 1, -1)));
         is(ARGUMENT, thrown(() -> x.setVotes(1, 1, 1000001)));
         is(8, x.setVotes(1, 1, 8));
-        promise = 5;
+        says("promise 5");
         is(0, x.setPeople(1, 1000000));
         is(1000000, x.setPeople(1, 3));
         is(BOUNDS, thrown(() -> x.setPeople(2, -1)));
@@ -182,7 +63,7 @@ public final class PromisesTest {
     }
 
     private static void boundsAndSums() {
-        promise = 6;
+        says("promise 6");
         Seattable x = votes(90, 10);
         x.setBounds(false, 1, 2, 400);
         x.deal(0, 0, 0, 10);
@@ -194,14 +75,14 @@ public final class PromisesTest {
         x.setPeople(0, 1);
         is(0, x.deal(2, 0, 0, 399));
         is(1, x.deal(2, 0, 0, 400));
-        is(BOUNDS, thrown(() -> run(() -> x.setBounds(false, 2, 1, 0))));
-        is(BOUNDS, thrown(() -> run(() -> x.setBounds(true, 1, 0, 0))));
-        is(BOUNDS, thrown(() -> run(() -> x.setBounds(true, -1, 0, 0))));
-        is(ARGUMENT, thrown(() -> run(() -> x.setBounds(true, 0, -1, 0))));
-        is(ARGUMENT, thrown(() -> run(() -> x.setBounds(true, 0, 401, 401))));
-        is(ARGUMENT, thrown(() -> run(() -> x.setBounds(true, 0, 3, 2))));
-        is(ARGUMENT, thrown(() -> run(() -> x.setBounds(true, 0, 0, 401))));
-        promise = 7;
+        is(BOUNDS, thrown(() -> x.setBounds(false, 2, 1, 0)));
+        is(BOUNDS, thrown(() -> x.setBounds(true, 1, 0, 0)));
+        is(BOUNDS, thrown(() -> x.setBounds(true, -1, 0, 0)));
+        is(ARGUMENT, thrown(() -> x.setBounds(true, 0, -1, 0)));
+        is(ARGUMENT, thrown(() -> x.setBounds(true, 0, 401, 401)));
+        is(ARGUMENT, thrown(() -> x.setBounds(true, 0, 3, 2)));
+        is(ARGUMENT, thrown(() -> x.setBounds(true, 0, 0, 401)));
+        says("promise 7");
         is(0, x.setSum(false, 1, 40));
         is(0, x.setSum(true, 0, 4));
         is(40, x.setSum(false, 1, 0));
@@ -213,13 +94,8 @@ public final class PromisesTest {
         is(ARGUMENT, thrown(() -> x.setSum(false, 0, -1)));
     }
 
-    private static Object run(Runnable call) {
-        call.run();
-        return "nothing";
-    }
-
     private static void shares() {
-        promise = 8;
+        says("promise 8");
         Seattable x = votes(95, 5);
         x.setBar(5, 100);
         x.deal(0, 0, 3, 20);
@@ -229,14 +105,14 @@ public final class PromisesTest {
         is("20 0|", results(x));
         x.setBar(1, 1);
         is(0, x.deal(0, 0, 3, 20));
-        is(ARGUMENT, thrown(() -> run(() -> x.setBar(-1, 5))));
-        is(ARGUMENT, thrown(() -> run(() -> x.setBar(6, 5))));
-        is(ARGUMENT, thrown(() -> run(() -> x.setBar(0, 0))));
-        is(ARGUMENT, thrown(() -> run(() -> x.setBar(1, 1001))));
-        is(ARGUMENT, thrown(() -> run(() -> x.setBar(-2, -1))));
+        is(ARGUMENT, thrown(() -> x.setBar(-1, 5)));
+        is(ARGUMENT, thrown(() -> x.setBar(6, 5)));
+        is(ARGUMENT, thrown(() -> x.setBar(0, 0)));
+        is(ARGUMENT, thrown(() -> x.setBar(1, 1001)));
+        is(ARGUMENT, thrown(() -> x.setBar(-2, -1)));
         x.setPeople(0, 3);
         is(1, x.deal(2, 0, 3, 20));
-        promise = 9;
+        says("promise 9");
         Seattable y = votes(100, 30);
         y.setPost(1, 1);
         y.deal(0, 0, 0, 3);
@@ -244,14 +120,14 @@ public final class PromisesTest {
         y.setPost(0, 1000);
         y.deal(0, 0, 0, 3);
         is("2 1|", results(y));
-        is(ARGUMENT, thrown(() -> run(() -> y.setPost(-1, 5))));
-        is(ARGUMENT, thrown(() -> run(() -> y.setPost(6, 5))));
-        is(ARGUMENT, thrown(() -> run(() -> y.setPost(0, 0))));
-        is(ARGUMENT, thrown(() -> run(() -> y.setPost(1, 1001))));
+        is(ARGUMENT, thrown(() -> y.setPost(-1, 5)));
+        is(ARGUMENT, thrown(() -> y.setPost(6, 5)));
+        is(ARGUMENT, thrown(() -> y.setPost(0, 0)));
+        is(ARGUMENT, thrown(() -> y.setPost(1, 1001)));
     }
 
     private static void typing() {
-        promise = 10;
+        says("promise 10");
         Seattable x = new Seattable();
         is(5, x.type(0x7061727479L, 0, 0, 0, 0, 0));
         is(6, x.type(0, 0, 0, 0, 0, 0x3b00000000000000L));
@@ -269,7 +145,7 @@ public final class PromisesTest {
         is(600, x.type(0, 0, 0, 0, 0, 0));
         is(STATE, thrown(() -> x.type(0, 0, 0, 1, 0, 0)));
         is(1, x.count(10));
-        promise = 11;
+        says("promise 11");
         is(600, x.clearText());
         is(0, x.clearText());
     }
@@ -286,7 +162,7 @@ public final class PromisesTest {
     }
 
     private static void textErrors() {
-        promise = 12;
+        says("promise 12");
         Seattable x = house(2, 1);
         error(x, "", 0, -1);
         error(x, " \n ", 0, -1);
@@ -300,7 +176,7 @@ public final class PromisesTest {
         error(x, " 1000001", 1, 1);
         error(x, "land,", 1, 4);
         error(x, "bar 1 \u00ff", 1, 6);
-        promise = 13;
+        says("promise 13");
         error(x, ";", 2, 0);
         error(x, "partys;", 2, 0);
         error(x, "partyz;", 2, 0);
@@ -342,7 +218,7 @@ public final class PromisesTest {
     }
 
     private static void loading() {
-        promise = 14;
+        says("promise 14");
         Seattable x = new Seattable();
         is(0, x.load());
         is(1, x.count(10));
@@ -369,7 +245,7 @@ public final class PromisesTest {
     }
 
     private static void dealing() {
-        promise = 15;
+        says("promise 15");
         Seattable x = votes(53000, 24000, 23000);
         is(1, x.deal(0, 0, 0, 10));
         is("6 2 2|", results(x));
@@ -431,7 +307,7 @@ public final class PromisesTest {
         is(ARGUMENT, thrown(() -> bounded.deal(0, 0, 0, 0)));
         is(ARGUMENT, thrown(() -> bounded.deal(0, 0, 0, 401)));
         is("6 0|", results(bounded));
-        promise = 16;
+        says("promise 16");
         is(6, bounded.seatAt(0, 0));
         is(0, bounded.seatAt(0, 1));
         bounded.addParty();
@@ -447,7 +323,7 @@ public final class PromisesTest {
     }
 
     private static void quotas() {
-        promise = 17;
+        says("promise 17");
         Seattable x = votes(53, 24, 23);
         is(1, x.quota(0, 0, 5, 0));
         is("53/20", board(x));
@@ -474,7 +350,7 @@ public final class PromisesTest {
     }
 
     private static void laws() {
-        promise = 18;
+        says("promise 18");
         Seattable x = votes(6, 6, 2);
         is(3002, x.breaks(0, 0, 0, 3, 11));
         is(-1, x.breaks(0, 0, 0, 3, 3));
@@ -517,7 +393,7 @@ public final class PromisesTest {
     }
 
     private static void filling() {
-        promise = 19;
+        says("promise 19");
         int[][] same = {{10, 10}, {10, 10}};
         Seattable x = table(same, new int[] {1, 1}, new int[] {1, 1});
         is(2, x.fill());
@@ -548,7 +424,7 @@ public final class PromisesTest {
         x.write(1);
         is("0 1\n1 0\n-\n", read(x));
         x.undo();
-        promise = 20;
+        says("promise 20");
         is(1, full.cellAt(0, 1, 1) + full.cellAt(0, 1, 0));
         is(0, x.cellAt(1, 0, 0));
         is(1, x.cellAt(1, 0, 1));
@@ -563,13 +439,8 @@ public final class PromisesTest {
         is(BOUNDS, thrown(() -> new Seattable().cellAt(0, 0, 0)));
     }
 
-    private static String factorOf(Seattable x, int table, boolean isLand, int index) {
-        int sign = x.factor(table, isLand, index);
-        return sign + " " + board(x);
-    }
-
     private static void factors() {
-        promise = 21;
+        says("promise 21");
         Seattable x = table(new int[][] {{10, 0, 4}, {0, 10, 0}, {5, 0, 0}}, new int[] {1, 1, 0}, new int[] {1, 1, 0});
         x.addLand();
         is(1, x.fill());
@@ -600,7 +471,7 @@ public final class PromisesTest {
         is(BOUNDS, thrown(() -> z.factor(0, false, -1)));
         is(BOUNDS, thrown(() -> new Seattable().factor(0, false, 0)));
         is("3/20", board(z));
-        promise = 22;
+        says("promise 22");
         is("0 0 0 0 0", cut(z));
         z.setSum(false, 0, 3);
         is(0, z.fill());
@@ -615,17 +486,8 @@ public final class PromisesTest {
         is(ARGUMENT, thrown(() -> z.cutAt(5)));
     }
 
-    private static Seattable undone(Seattable x) {
-        x.undo();
-        return x;
-    }
-
-    private static String cut(Seattable x) {
-        return x.cutAt(0) + " " + x.cutAt(1) + " " + x.cutAt(2) + " " + x.cutAt(3) + " " + x.cutAt(4);
-    }
-
     private static void tiers() {
-        promise = 23;
+        says("promise 23");
         Seattable x = house(2, 3);
         int[][] votes = {{60, 60, 60}, {40, 40, 40}};
         for (int p = 0; p < 2; p++) {
@@ -669,7 +531,7 @@ public final class PromisesTest {
     }
 
     private static void candidates() {
-        promise = 24;
+        says("promise 24");
         Seattable x = ballots(3, 5, 123, 2, 0);
         x.elect(1, 0, 0);
         is(3, x.setCandidates(6));
@@ -683,7 +545,7 @@ public final class PromisesTest {
         is(4, x.undo());
         is(2, x.count(3));
         is(1, x.electedAt(0));
-        promise = 25;
+        says("promise 25");
         is(2, x.addBallot(1000, 312));
         is(3, x.addBallot(1, 0));
         is(ARGUMENT, thrown(() -> x.addBallot(0, 1)));
@@ -704,7 +566,7 @@ public final class PromisesTest {
     }
 
     private static void counting() {
-        promise = 26;
+        says("promise 26");
         Seattable x = ballots(4, 12, 12, 5, 32, 3, 4);
         // The quota is 20 / 3; 16 / 3 of the 12 go on to the candidate 1, who stands before 2 then.
         is(4, x.elect(2, 0, 0));
@@ -722,14 +584,14 @@ public final class PromisesTest {
         is(-2, x.electedAt(1));
         is(2, x.electedAt(2));
         countingRules();
-        promise = 27;
+        says("promise 27");
         is(BOUNDS, thrown(() -> x.electedAt(4)));
         is(BOUNDS, thrown(() -> x.electedAt(-1)));
         is(BOUNDS, thrown(() -> new Seattable().electedAt(2)));
         is(STATE, thrown(() -> new Seattable().electedAt(1)));
         x.addBallot(1, 1);
         is(2, x.electedAt(2));
-        promise = 28;
+        says("promise 28");
         is(BOUNDS, thrown(() -> x.votesAt(4, 0)));
         is(BOUNDS, thrown(() -> x.votesAt(-1, 0)));
         is(BOUNDS, thrown(() -> x.votesAt(0, 4)));
@@ -782,13 +644,13 @@ public final class PromisesTest {
     }
 
     private static void openList() {
-        promise = 29;
+        says("promise 29");
         Seattable x = ballots(4, 2, 4, 3, 31, 3, 2, 2, 0);
-        is("1 2 3 0", openOrder(x, 1, 10));
-        is("1 2 3 0", openOrder(x, 1, 5));
-        is("1 2 0 3", openOrder(x, 3, 10));
-        is("0 1 2 3", openOrder(x, 31, 100));
-        is("1 2 3 0", openOrder(x, 0, 1));
+        is("1 2 3 0", openList(x, 1, 10));
+        is("1 2 3 0", openList(x, 1, 5));
+        is("1 2 0 3", openList(x, 3, 10));
+        is("0 1 2 3", openList(x, 31, 100));
+        is("1 2 3 0", openList(x, 0, 1));
         is(BOUNDS, thrown(() -> x.openAt(4, 1, 0)));
         is(BOUNDS, thrown(() -> x.openAt(-1, 1, 2)));
         is(ARGUMENT, thrown(() -> x.openAt(0, 1, 0)));
@@ -796,10 +658,6 @@ public final class PromisesTest {
         is(ARGUMENT, thrown(() -> x.openAt(0, 6, 5)));
         is(ARGUMENT, thrown(() -> x.openAt(0, 1, 101)));
         is(1, new Seattable().openAt(1, 1, 2));
-    }
-
-    private static String openOrder(Seattable x, int n, int d) {
-        return x.openAt(0, n, d) + " " + x.openAt(1, n, d) + " " + x.openAt(2, n, d) + " " + x.openAt(3, n, d);
     }
 
     private static Seattable chain(int... people) {
@@ -814,7 +672,7 @@ public final class PromisesTest {
     }
 
     private static void blocks() {
-        promise = 30;
+        says("promise 30");
         Seattable x = new Seattable();
         for (int i = 0; i < 9; i++) {
             is(i, x.addBlock(1000, 0, 1000));
@@ -824,7 +682,7 @@ public final class PromisesTest {
         is(ARGUMENT, thrown(() -> x.addBlock(0, -1, 0)));
         is(ARGUMENT, thrown(() -> x.addBlock(0, 0, 1001)));
         is(9, x.count(4));
-        promise = 31;
+        says("promise 31");
         is(true, x.join(0, 8));
         is(false, x.join(8, 0));
         is(11, x.count(10));
@@ -840,7 +698,7 @@ public final class PromisesTest {
     }
 
     private static void districts() {
-        promise = 32;
+        says("promise 32");
         Seattable x = chain(4, 3, 2, 1);
         is(1, x.maps(1, 0));
         is(3, x.maps(2, 0));
@@ -871,16 +729,16 @@ public final class PromisesTest {
         is(ARGUMENT, thrown(() -> ring.maps(4, 0)));
         is(ARGUMENT, thrown(() -> ring.maps(2, -1)));
         is(ARGUMENT, thrown(() -> ring.maps(2, 4)));
-        promise = 33;
-        is("0 0 1 1", districtsOf(ring, 2));
-        is("0 1 1 0", districtsOf(x, 2));
-        is("0 0 0 0", districtsOf(x, 1));
+        says("promise 33");
+        is("0 0 1 1", districts(ring, 2));
+        is("0 1 1 0", districts(x, 2));
+        is("0 0 0 0", districts(x, 1));
         is(BOUNDS, thrown(() -> x.districtAt(0, 4)));
         is(BOUNDS, thrown(() -> x.districtAt(2, -1)));
         is(ARGUMENT, thrown(() -> x.districtAt(0, 0)));
         is(ARGUMENT, thrown(() -> x.districtAt(4, 0)));
         is(ELEMENT, thrown(() -> apart.districtAt(1, 0)));
-        promise = 34;
+        says("promise 34");
         // Red wins the blocks 0 and 2 by 4, and loses 1 and 3 by 6.
         is(1, x.tilt(2, 9000, true));
         is(0, x.tilt(2, 9000, false));
@@ -895,12 +753,8 @@ public final class PromisesTest {
         is(ARGUMENT, thrown(() -> x.tilt(1, 9001, true)));
     }
 
-    private static String districtsOf(Seattable x, int d) {
-        return x.districtAt(d, 0) + " " + x.districtAt(d, 1) + " " + x.districtAt(d, 2) + " " + x.districtAt(d, 3);
-    }
-
     private static void panels() {
-        promise = 35;
+        says("promise 35");
         Seattable x = new Seattable();
         for (int i = 0; i < 4; i++) {
             is(i, x.addPerson(i == 0 ? 0 : 1, 2, 0));
@@ -908,7 +762,7 @@ public final class PromisesTest {
         is(ARGUMENT, thrown(() -> x.addPerson(3, 0, 0)));
         is(ARGUMENT, thrown(() -> x.addPerson(0, -1, 0)));
         is(ARGUMENT, thrown(() -> x.addPerson(0, 0, 3)));
-        promise = 36;
+        says("promise 36");
         is(-1, x.want(0, 0, 1));
         is(1, x.want(0, 0, 1));
         is(ARGUMENT, thrown(() -> x.want(3, 0, 1)));
@@ -916,7 +770,7 @@ public final class PromisesTest {
         is(ARGUMENT, thrown(() -> x.want(0, 0, 10)));
         is(ARGUMENT, thrown(() -> x.want(0, 0, -2)));
         is(ARGUMENT, thrown(() -> x.want(-1, 0, 0)));
-        promise = 37;
+        says("promise 37");
         is(3, x.panels(2, -1));
         is(3, x.panels(2, 0));
         is(1, x.panels(2, 3));
@@ -925,7 +779,7 @@ public final class PromisesTest {
         is(ARGUMENT, thrown(() -> x.panels(10, -1)));
         is(BOUNDS, thrown(() -> x.panels(2, 4)));
         is(BOUNDS, thrown(() -> x.panels(2, -2)));
-        promise = 38;
+        says("promise 38");
         is("1 1/3", x.chance(2) + " " + board(x));
         is("1 2/3", x.chance(3) + " " + board(x));
         is("0 0/1", x.chance(5) + " " + board(x));
@@ -936,20 +790,20 @@ public final class PromisesTest {
         is("0 0/1", x.chance(9) + " " + board(x));
         is(ARGUMENT, thrown(() -> x.chance(0)));
         is(ARGUMENT, thrown(() -> x.chance(10)));
-        promise = 35;
+        says("promise 35");
         for (int i = 4; i < 9; i++) {
             is(i, x.addPerson(0, 0, 0));
         }
         is(STATE, thrown(() -> x.addPerson(0, 0, 0)));
         is(ARGUMENT, thrown(() -> x.addPerson(0, 0, 9)));
-        promise = 38;
+        says("promise 38");
         x.want(0, 1, -1);
         is("1 4/9", x.chance(4) + " " + board(x));
         is(126, x.panels(4, -1));
     }
 
     private static void weights() {
-        promise = 39;
+        says("promise 39");
         Seattable x = new Seattable();
         for (int i = 0; i < 6; i++) {
             is(i, x.addPlayer(100));
@@ -957,13 +811,13 @@ public final class PromisesTest {
         is(STATE, thrown(() -> x.addPlayer(0)));
         is(ARGUMENT, thrown(() -> x.addPlayer(101)));
         is(ARGUMENT, thrown(() -> x.addPlayer(-1)));
-        promise = 40;
+        says("promise 40");
         is(1, x.setMajority(600));
         is(600, x.setMajority(1));
         is(ARGUMENT, thrown(() -> x.setMajority(0)));
         is(ARGUMENT, thrown(() -> x.setMajority(601)));
         is(6, x.count(11));
-        promise = 41;
+        says("promise 41");
         Seattable y = players(51, 50, 30, 20);
         is("1 2/3", y.power(0, false) + " " + board(y));
         is("1 1/6", y.power(1, false) + " " + board(y));
@@ -977,13 +831,13 @@ public final class PromisesTest {
         is(0, lost.power(0, true));
         is(BOUNDS, thrown(() -> y.power(3, true)));
         is(BOUNDS, thrown(() -> y.power(-1, true)));
-        promise = 42;
+        says("promise 42");
         is("3 5", y.leastAt(0) + " " + y.leastAt(1));
         is(ELEMENT, thrown(() -> y.leastAt(2)));
         is(ELEMENT, thrown(() -> y.leastAt(-1)));
         is(ELEMENT, thrown(() -> lost.leastAt(0)));
         is(3, dummy.leastAt(0));
-        promise = 43;
+        says("promise 43");
         is(4, y.otherwise());
         is(2, dummy.otherwise());
         is(0, lost.otherwise());
@@ -996,7 +850,7 @@ public final class PromisesTest {
     }
 
     private static void agendas() {
-        promise = 44;
+        says("promise 44");
         // A ring: 0 beats 1, 1 beats 2, 2 beats 0.
         Seattable x = ballots(3, 4, 123, 3, 231, 2, 312);
         is(3, x.margin(0, 1));
@@ -1011,7 +865,7 @@ public final class PromisesTest {
         x.undo();
         is(BOUNDS, thrown(() -> x.margin(3, 0)));
         is(BOUNDS, thrown(() -> x.margin(0, -1)));
-        promise = 45;
+        says("promise 45");
         is(2, x.agenda(123));
         is(0, x.agenda(231));
         is(1, x.agenda(132));
@@ -1024,14 +878,14 @@ public final class PromisesTest {
         is(ARGUMENT, thrown(() -> x.agenda(-123)));
         is(ARGUMENT, thrown(() -> x.agenda(FAR)));
         is(ARGUMENT, thrown(() -> x.agenda(1203)));
-        promise = 46;
+        says("promise 46");
         is(231, x.agendaFor(0));
         is(132, x.agendaFor(1));
         is(123, x.agendaFor(2));
         is(0, ballots(3, 1, 123).agendaFor(2));
         is(BOUNDS, thrown(() -> x.agendaFor(3)));
         is(BOUNDS, thrown(() -> x.agendaFor(-1)));
-        promise = 47;
+        says("promise 47");
         is(2, x.agendasFor(0));
         is(6, ballots(3, 1, 123).agendasFor(0));
         is(0, ballots(3, 1, 123).agendasFor(1));
@@ -1042,7 +896,7 @@ public final class PromisesTest {
     }
 
     private static void boardAndReports() {
-        promise = 48;
+        says("promise 48");
         Seattable x = votes(1000000, 999999, 999983);
         is(0, x.digits(false, 0));
         is(1, x.digits(true, 0));
@@ -1065,7 +919,7 @@ public final class PromisesTest {
             is(Integer.parseInt(bottom.substring(Math.max(0, end - 9), end)), deep.digits(true, g));
         }
         is(ELEMENT, thrown(() -> deep.digits(true, groups)));
-        promise = 49;
+        says("promise 49");
         Seattable y = votes(12, 12);
         is(0, y.write(0));
         is(0, y.write(1));
@@ -1081,7 +935,7 @@ public final class PromisesTest {
         is("12\n0\n-\n", read(y));
         is(ARGUMENT, thrown(() -> y.write(-1)));
         is(ARGUMENT, thrown(() -> y.write(3)));
-        promise = 50;
+        says("promise 50");
         is((int) '1', y.signAt(0));
         is(10, y.signAt(6));
         is(ELEMENT, thrown(() -> y.signAt(7)));
@@ -1093,7 +947,7 @@ public final class PromisesTest {
     }
 
     private static void undoing() {
-        promise = 51;
+        says("promise 51");
         Seattable x = house(1, 1);
         for (int i = 1; i <= 20; i++) {
             x.setVotes(0, 0, i);
@@ -1139,7 +993,7 @@ public final class PromisesTest {
     }
 
     private static void countsAndErrors() {
-        promise = 52;
+        says("promise 52");
         Seattable x = votes(5, 5);
         x.setSum(false, 0, 1);
         x.setSum(true, 0, 1);
@@ -1157,7 +1011,7 @@ public final class PromisesTest {
         }
         is(ARGUMENT, thrown(() -> x.count(-1)));
         is(ARGUMENT, thrown(() -> x.count(12)));
-        promise = 53;
+        says("promise 53");
         is(0, x.errors());
         is(0, new Seattable().errors());
         x.quota(0, 0, 3, 0);
@@ -1192,9 +1046,6 @@ public final class PromisesTest {
         boardAndReports();
         undoing();
         countsAndErrors();
-        System.out.println(wrong == 0 ? "PromisesTest: all answers are as due" : wrong + " answers are not as due");
-        if (wrong != 0) {
-            System.exit(1);
-        }
+        finish("PromisesTest");
     }
 }

@@ -136,7 +136,7 @@ public final class WildTest {
             x.setPost(1 + random(1000), 1000);
             int tables = x.fill();
             check(tables > 0 && x.cutAt(0) == 0 && x.errors() == 0, "run " + run + " has no right tables");
-            for (int table = 0; table < tables; table++) {
+            for (int table = 0; table < tables; table += 5) {
                 int sum = 0;
                 for (int i = 0; i < 30; i++) {
                     sum += x.cellAt(table, i / 5, i % 5) * (i % 5 == run % 5 ? 1 : 0);
@@ -156,7 +156,7 @@ public final class WildTest {
             if (run % 3 > 0) {
                 fillUp(x);
             }
-            for (int step = 0; step < 400; step++) {
+            for (int step = 0; step < 360; step++) {
                 Method method = methods[random(methods.length)];
                 call(x, method, argumentsOf(method));
             }
