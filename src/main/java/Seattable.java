@@ -2582,20 +2582,20 @@ public final class Seattable {
             findBeaten(house);
             agendas = 0;
             firstAgenda = 0;
-            addAgendas(house.candidates(), 0, 0, NONE, wanted);
+            addAgendas(this, house.candidates(), 0, 0, NONE, wanted);
         }
 
         /** Goes on with an agenda in all ways; each level puts one more candidate into the set of those in it. */
-        private void addAgendas(int candidates, int inIt, int agenda, int left, int wanted) {
+        private static void addAgendas(Ballots by, int candidates, int inIt, int agenda, int left, int wanted) {
             if (Integer.bitCount(inIt) >= candidates) {
-                firstAgenda = left == wanted && agendas == 0 ? agenda : firstAgenda;
-                agendas += left == wanted ? 1 : 0;
+                by.firstAgenda = left == wanted && by.agendas == 0 ? agenda : by.firstAgenda;
+                by.agendas += left == wanted ? 1 : 0;
                 return;
             }
             for (int c = 0; c < candidates; c++) {
                 if ((inIt >> c & 1) == 0) {
-                    int next = left == NONE ? c : stronger(left, c);
-                    addAgendas(candidates, inIt | 1 << c, agenda * 10 + c + 1, next, wanted);
+                    int next = left == NONE ? c : by.stronger(left, c);
+                    addAgendas(by, candidates, inIt | 1 << c, agenda * 10 + c + 1, next, wanted);
                 }
             }
         }
@@ -2998,7 +2998,7 @@ public final class Seattable {
                 least += gap[place] * (place + 1);
             }
             for (int sum = least; sum < told; sum++) {
-                if (isFound(movable - 1, sum - least, 0)) {
+                if (isFound(this, movable - 1, sum - least, 0)) {
                     return sum;
                 }
             }
@@ -3040,14 +3040,14 @@ public final class Seattable {
          * Spreads what is left of a sum over the gaps from a place on to the front, behind which the weights are
          * set; each level goes one place ahead.
          */
-        private boolean isFound(int place, int left, int behind) {
+        private static boolean isFound(Weights by, int place, int left, int behind) {
             if (place < 0) {
-                return left == 0 && isToldOtherwise();
+                return left == 0 && by.isToldOtherwise();
             }
             for (int more = 0; more * (place + 1) <= left; more++) {
-                int weight = behind + gap[place] + more;
-                trial[order[place]] = weight;
-                if ((place > 0 || more == left) && isFound(place - 1, left - more * (place + 1), weight)) {
+                int weight = behind + by.gap[place] + more;
+                by.trial[by.order[place]] = weight;
+                if ((place > 0 || more == left) && isFound(by, place - 1, left - more * (place + 1), weight)) {
                     return true;
                 }
             }
